@@ -937,9 +937,8 @@ public final class ShakyScreens {
         private final int[] places = new int[MOST_LAID];
         private final int[][] pulls = new int[MOST_LAID][MOST_LAID];
         private final int[] leastRest = new int[MOST_LAID + 1];
+        private final int[] tooNear = new int[PLACES];
         private int count = 0;
-        private int wide = 0;
-        private int reach = 0;
         private int bestPrice = NO_PRICE;
 
         /** The PRICE of what is the best then; NONE: there is no LAYING. */
@@ -949,11 +948,10 @@ public final class ShakyScreens {
             if (count > who.able[HOLD]) {
                 return NONE;
             }
-            wide = who.able[WIDE];
-            reach = who.able[REACH];
-            weighPairs(parts);
+            weighPairs(parts, who.able[WIDE]);
+            findTooNear(who.able[WIDE]);
             bestPrice = NO_PRICE;
-            layFrom(0, 0);
+            layFrom(0, 0, who.able[REACH]);
             return best.isEmpty() ? NONE : bestPrice;
         }
 
@@ -968,7 +966,7 @@ public final class ShakyScreens {
         }
 
         /** Any two lie more than WIDE apart: that tells the least that the rest will cost. */
-        private void weighPairs(Parts parts) {
+        private void weighPairs(Parts parts, int wide) {
             leastRest[count] = 0;
             for (int k = count - 1; k >= 0; k--) {
                 int sum = 0;
@@ -980,8 +978,20 @@ public final class ShakyScreens {
             }
         }
 
+        /** For each PLACE the set of those that no other PART may have then, itself among them. */
+        private void findTooNear(int wide) {
+            for (int place = 0; place < PLACES; place++) {
+                tooNear[place] = 0;
+                for (int other = 0; other < PLACES; other++) {
+                    if (Laying.apart(place, other) <= wide) {
+                        tooNear[place] |= 1 << other;
+                    }
+                }
+            }
+        }
+
         /** Goes through LAYINGS in their order as rows, so a like PRICE that comes later is no better. */
-        private void layFrom(int k, int paid) {
+        private void layFrom(int k, int paid, int free) {
             if (k > count || paid + leastRest[k] >= bestPrice) {
                 return;
             }
@@ -990,23 +1000,11 @@ public final class ShakyScreens {
                 return;
             }
             for (int place = 0; place < PLACES; place++) {
-                if (isFree(k, place)) {
+                if ((free >> place & 1) == 1) {
                     places[k] = place;
-                    layFrom(k + 1, paid + pullOf(k, place));
+                    layFrom(k + 1, paid + pullOf(k, place), free & ~tooNear[place]);
                 }
             }
-        }
-
-        private boolean isFree(int k, int place) {
-            if ((reach >> place & 1) == 0) {
-                return false;
-            }
-            for (int j = 0; j < k; j++) {
-                if (Laying.apart(places[j], place) <= wide) {
-                    return false;
-                }
-            }
-            return true;
         }
 
         private int pullOf(int k, int place) {

@@ -203,5 +203,8 @@ public final class LayingsTest {
         check.due("all pairs", 8 * 4 + 4, s.price(0));
         s.follow(2, 0, 99);
         check.due("all pairs, dy alone", 8 * 4 + 4 + 99 * 2, s.price(0));
+        s.can(0, 1, 1 << 6 | 1 << 7);
+        s.lay(0, 3);
+        check.due("PARTS of the LAYING alone", 8, s.price(0));
     }
 }

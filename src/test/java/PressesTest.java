@@ -8,6 +8,7 @@ public final class PressesTest {
         test.promise18Errors();
         test.promise18Weights();
         test.promise18Sureness();
+        test.promise18SurenessToTheEdge();
         test.promise18Danger();
         test.promise18PressesForNone();
         test.promise18Refusals();
@@ -95,6 +96,20 @@ public final class PressesTest {
         check.due("10 asks all but the lone one", 100, s.press(0, 10, 5, 0));
         s.rule(0, 9);
         check.due("9 takes it", 0, s.press(0, 10, 5, 0));
+    }
+
+    /** Weights of 1 and 10: 10 times 10 is no less than 9 times 11. */
+    private void promise18SurenessToTheEdge() {
+        ShakyScreens s = twoParts("p0;p9");
+        s.rule(0, 9);
+        check.due("WISHES and 1", 1, s.press(0, 10, 5, 0));
+        s = twoParts("p0;p0");
+        for (int k = 0; k < 9; k++) {
+            s.press(0, 0, 5, 0);
+        }
+        check.due("ERROR 1 is COUNTED nine times", 9, s.counted(0, 1));
+        s.rule(0, 9);
+        check.due("COUNTED and 1", 0, s.press(0, 3, 0, 0));
     }
 
     private void promise18Danger() {
@@ -197,6 +212,13 @@ public final class PressesTest {
         check.due("those beyond stay COUNTED", 2, s.counted(0, 1));
         s.press(0, 25, 15, 20);
         check.due("a new one", 2, s.undo(0));
+        int[] at = {15, 20, 25};
+        for (int k = 0; k < 15; k++) {
+            s.press(0, at[k % 3], 15, 30);
+        }
+        for (int k = 14; k > 2; k--) {
+            check.due("the LAST ones in their order", k % 3, s.undo(0));
+        }
         s = onePart("x1");
         s.press(0, 15, 15, 0);
         s.press(0, 15, 15, 0);
@@ -225,6 +247,9 @@ public final class PressesTest {
         check.due("span(0, 0)", -2, s.span(0, 0));
         check.due("span(0, 11)", -2, s.span(0, 11));
         check.due("span(2, 0)", -1, s.span(2, 0));
+        s.press(0, 25, 15, 0);
+        check.due("one is COUNTED", 2, s.span(0, 1));
+        s.undo(0);
         int[] at = {15, 15, 15, 15, 15, 20, 20, 20, 25, 25};
         for (int x : at) {
             s.press(0, x, 15, 0);

@@ -89,6 +89,9 @@ public final class SheetsTest {
         due(s, "a wider LANE", LOST, 2, s.cell(0, 2, INTS));
         due(s, "cell(0, 3, 1)", LOST, 3, s.cell(0, 3, SHORTS));
         due(s, "cell(0, -1, 1)", LOST, 3, s.cell(0, -1, SHORTS));
+        s.sheet(3, INTS, 1);
+        s.put(3, 0, 8);
+        due(s, "cell(3, 0, 2)", 8, 0, s.cell(3, 0, INTS));
         due(s, "cell(0, 0, 3)", LOST, 0, s.cell(0, 0, 3));
         due(s, "cell(0, 0, -1)", LOST, 0, s.cell(0, 0, -1));
         due(s, "cell(4, 0, 0)", LOST, 0, s.cell(4, 0, 0));

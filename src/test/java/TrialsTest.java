@@ -40,6 +40,9 @@ public final class TrialsTest {
         ShakyScreens s = persons(3);
         check.due("no TRIALS", Long.MIN_VALUE, s.odds(0, 0));
         check.due("odds(3, 0)", Long.MIN_VALUE, s.odds(3, 0));
+        s.trial(1, 5, 4);
+        dueOdds(s, 1, 1, 2);
+        s = persons(3);
         s.trial(0, 9, 4);
         check.due("odds(0, 2)", Long.MIN_VALUE, s.odds(0, 2));
         check.due("odds(0, -1)", Long.MIN_VALUE, s.odds(0, -1));
@@ -107,6 +110,8 @@ public final class TrialsTest {
         check.due("none is COUNTED", -9, s.told(1, 0, 5, 0));
         s.press(0, 0, 5, 0);
         s.press(0, 5, 5, 0);
+        check.due("told for 1", 0, s.told(1, 0, 1, 100));
+        check.due("told for 10", 1, s.told(1, 0, 10, 100));
         check.due("told for 5", 0, s.told(1, 0, 5, 100));
         check.due("told for 6", 1, s.told(1, 0, 6, 100));
         check.due("no more at 101", -3, s.told(1, 0, 6, 101));
