@@ -577,7 +577,7 @@ public final class ShakyScreens {
     private void takeParts(Parts given) {
         parts.become(given);
         for (int p = 0; p < MOST_PERSONS; p++) {
-            persons[p].forreceiveLayings();
+            persons[p].forgetLayings();
         }
     }
 
@@ -1140,7 +1140,7 @@ public final class ShakyScreens {
             askedPart = NONE;
         }
 
-        void forreceiveLayings() {
+        void forgetLayings() {
             laying.clear();
             oldLaying.clear();
             askedPart = NONE;
