@@ -6,18 +6,32 @@ public final class PressesTest {
         PressesTest test = new PressesTest();
         test.promise17Rule();
         test.promise18Errors();
+        test.promise18ErrorsOfTheWholeGlass();
+        test.promise18MiddlesOfAllPlaces();
         test.promise18Weights();
         test.promise18Sureness();
         test.promise18SurenessToTheEdge();
+        test.promise18EverySureness();
+        test.promise18GreatestWeights();
         test.promise18Danger();
+        test.promise18DangerThatIsUnsure();
+        test.promise18PauseToTheEdge();
+        test.promise18AskedAndTaken();
         test.promise18PressesForNone();
         test.promise18Refusals();
+        test.promise18TicksToTheEdge();
         test.promise19Confirm();
+        test.promise19ErrorAsPressed();
+        test.promise19NothingIsAsked();
         test.promise20Asked();
         test.promise21Undo();
+        test.promise21NoMoreThanTwelve();
         test.promise22Counted();
         test.promise23Span();
+        test.promise23SpanOfAllCounted();
         test.promise24Worse();
+        test.promise24WorseOfTwelve();
+        test.fiveHundredAndTwelveCalls();
         test.check.end();
     }
 
@@ -49,6 +63,34 @@ public final class PressesTest {
             check.due(call, press[2] == -9 ? -9 : 0, s.press(0, press[0], press[1], 0));
             for (int error = 0; error < 3; error++) {
                 check.due(call + ", COUNTED " + error, error == press[2] ? 1 : 0, s.counted(0, error));
+            }
+        }
+    }
+
+    /** PLACE 5's middle is at 15, 15: each press of the glass, a row of them on an object of its own. */
+    private void promise18ErrorsOfTheWholeGlass() {
+        for (int y = 0; y < 30; y++) {
+            ShakyScreens s = onePart("d0");
+            for (int x = 0; x < 40; x++) {
+                int error = Math.max(Math.abs(x - 15), Math.abs(y - 15)) / 5;
+                String call = "press at " + x + ", " + y;
+                check.due(call, error > 2 ? -9 : 0, s.press(0, x, y, 0));
+                check.due(call + ", its ERROR", error > 2 ? -3 : error, s.undo(0));
+            }
+        }
+    }
+
+    private void promise18MiddlesOfAllPlaces() {
+        for (int place = 0; place < 12; place++) {
+            ShakyScreens s = Texts.screens("d0;d0", 1);
+            s.can(0, 1, 1 << place);
+            s.lay(0, 2);
+            int x = 10 * (place % 4) + 5;
+            int y = 10 * (place / 4) + 5;
+            int[][] presses = {{x, y, 0}, {x - 5, y, 1}, {x + 4, y, 0}, {x, y - 5, 1}, {x, y + 4, 0}, {x - 5, y - 5, 1}};
+            for (int[] press : presses) {
+                check.due("PLACE " + place, 1, s.press(0, press[0], press[1], 0));
+                check.due("PLACE " + place + ", its ERROR", press[2], s.undo(0));
             }
         }
     }
@@ -112,6 +154,100 @@ public final class PressesTest {
         check.due("COUNTED and 1", 0, s.press(0, 3, 0, 0));
     }
 
+    /** Weights of 1 to 12 against one of 5, both of ERROR 1. */
+    private void promise18EverySureness() {
+        for (int sureness = 0; sureness <= 10; sureness++) {
+            for (int weight = 1; weight <= 12; weight++) {
+                ShakyScreens s = twoParts("p4;p" + (weight - 1));
+                s.rule(0, sureness);
+                int meant = weight > 5 ? 1 : 0;
+                boolean asked = 10 * Math.max(5, weight) < sureness * (5 + weight);
+                String call = "weight " + weight + " against 5 by SURENESS " + sureness;
+                check.due(call, asked ? 100 + meant : meant, s.press(0, 10, 5, 0));
+                check.due(call + ": ASKED", asked ? meant : -9, s.asked(0));
+                check.due(call + ": COUNTED", asked ? 0 : 1, s.counted(0, 1));
+            }
+        }
+    }
+
+    /** Nearly 400 presses of ERROR 1 are COUNTED, of the greatest WISHES: 10 asks, as another one weighs 1. */
+    private void promise18GreatestWeights() {
+        ShakyScreens s = twoParts("p999;p0");
+        for (int k = 0; k < 390; k++) {
+            s.press(0, 0, 5, k);
+        }
+        check.due("COUNTED", 390, s.counted(0, 1));
+        s.rule(0, 10);
+        check.due("weights of 391000 and 1", 100, s.press(0, 3, 0, 400));
+        s.rule(0, 9);
+        check.due("sure by 9", 0, s.press(0, 3, 0, 400));
+        s.wish(1, 999);
+        s.wish(0, 0);
+        check.due("weights of 392 and 1000", 101, s.press(0, 3, 0, 401));
+        s.rule(0, 7);
+        check.due("sure by 7", 1, s.press(0, 3, 0, 401));
+    }
+
+    /** Below SURENESS it is ASKED, though what is ASKED is it; then a sure press within PAUSE takes it. */
+    private void promise18DangerThatIsUnsure() {
+        ShakyScreens s = twoParts("x3;p3");
+        s.rule(0, 6);
+        check.due("unsure", 100, s.press(0, 10, 5, 0));
+        check.due("unsure once more", 100, s.press(0, 10, 5, 1));
+        check.due("sure", 0, s.press(0, 0, 5, 2));
+        check.due("ASKED anew", 100, s.press(0, 0, 5, 2));
+        check.due("unsure: the TICK is the later one", 100, s.press(0, 10, 5, 12));
+        check.due("sure, 10 since", 0, s.press(0, 0, 5, 22));
+        check.due("unsure", 100, s.press(0, 10, 5, 30));
+        check.due("sure, 11 since", 100, s.press(0, 0, 5, 41));
+        s.wish(1, 99);
+        s.rule(0, 10);
+        check.due("the PART beside it is ASKED", 101, s.press(0, 10, 5, 42));
+        check.due("so what is ASKED is not it", 100, s.press(0, 0, 5, 42));
+    }
+
+    private void promise18PauseToTheEdge() {
+        int[] pauses = {0, 1, 10, 98, 99};
+        for (int pause : pauses) {
+            ShakyScreens s = onePart("x1");
+            s.rule(1, pause);
+            s.press(0, 15, 15, 50);
+            check.due("just within PAUSE " + pause, 0, s.press(0, 15, 15, 50 + pause));
+            s.press(0, 15, 15, 1000);
+            check.due("just beyond PAUSE " + pause, 100, s.press(0, 15, 15, 1001 + pause));
+        }
+        ShakyScreens s = onePart("x1");
+        s.press(0, 15, 15, 0);
+        check.due("PAUSE is 10 at first", 0, s.press(0, 15, 15, 10));
+        s.press(0, 15, 15, 20);
+        check.due("not 11", 100, s.press(0, 15, 15, 31));
+        s.rule(1, 4);
+        check.due("PAUSE as it is now", 100, s.press(0, 15, 15, 36));
+        s.rule(1, 99);
+        check.due("a greater one since", 0, s.press(0, 15, 15, 135));
+    }
+
+    private void promise18AskedAndTaken() {
+        ShakyScreens s = Texts.screens("x5;x5;d5", 2);
+        s.can(0, 1, 1 | 1 << 3 | 1 << 8);
+        s.lay(0, 7);
+        s.lay(1, 7);
+        check.due("one DANGER", 100, s.press(0, 5, 5, 0));
+        check.due("another DANGER is ASKED instead", 101, s.press(0, 35, 5, 0));
+        check.due("asked(0)", 1, s.asked(0));
+        check.due("nothing is ASKED of another PERSON", -9, s.asked(1));
+        check.due("none is COUNTED", -9, s.span(0, 10));
+        check.due("a DEED is TAKEN", 2, s.press(0, 5, 25, 0));
+        check.due("it clears what is ASKED", -9, s.asked(0));
+        check.due("it alone is COUNTED", 1, s.counted(0, 0));
+        s.press(0, 5, 5, 0);
+        s.lay(0, 7);
+        check.due("a new LAYING clears it: ASKED anew", 100, s.press(0, 5, 5, 0));
+        s.back(0);
+        check.due("so does the old one", 100, s.press(0, 5, 5, 0));
+        check.due("then it is TAKEN", 0, s.press(0, 5, 5, 0));
+    }
+
     private void promise18Danger() {
         ShakyScreens s = Texts.screens("x5;p5;x5", 2);
         s.can(0, 1, 1 | 1 << 3 | 1 << 8);
@@ -159,6 +295,63 @@ public final class PressesTest {
             check.due("press" + java.util.Arrays.toString(call), call[4], s.press(call[0], call[1], call[2], call[3]));
         }
         check.due("COUNTED", 2, s.counted(0, 0));
+    }
+
+    private void promise18TicksToTheEdge() {
+        ShakyScreens s = onePart("x1");
+        check.due("TICK 0", 100, s.press(0, 15, 15, 0));
+        check.due("TICK 0 again", 0, s.press(0, 15, 15, 0));
+        check.due("TICK 9999", 100, s.press(0, 15, 15, 9999));
+        check.due("TICK 9998 then", -3, s.press(0, 15, 15, 9998));
+        check.due("TICK 0 then", -3, s.press(0, 15, 15, 0));
+        check.due("TICK 10000", -2, s.press(0, 15, 15, 10000));
+        check.due("confirmed at 9998", -3, s.confirm(0, 9998));
+        check.due("confirmed at 9999", 0, s.confirm(0, 9999));
+        check.due("TICK 9999 then", 100, s.press(0, 15, 15, 9999));
+        check.due("another PERSON at 0", -9, s.press(1, 15, 15, 0));
+    }
+
+    /** ASKED twice: by the ERROR of the later press. */
+    private void promise19ErrorAsPressed() {
+        ShakyScreens s = onePart("x1");
+        s.rule(1, 0);
+        s.press(0, 15, 15, 0);
+        s.press(0, 20, 15, 1);
+        check.due("confirmed", 0, s.confirm(0, 1));
+        check.due("by the later ERROR", 1, s.undo(0));
+        s.press(0, 25, 15, 2);
+        s.press(0, 39, 29, 3);
+        check.due("confirmed behind a press for none", 0, s.confirm(0, 3));
+        check.due("by its own ERROR", 2, s.undo(0));
+        s = twoParts("p3;x3");
+        s.rule(0, 10);
+        s.press(0, 10, 5, 0);
+        check.due("an unsure one is confirmed, which is no DANGER", 0, s.confirm(0, 0));
+        check.due("and COUNTED", 1, s.counted(0, 1));
+        check.due("TICKS of 0 are not below 0", 100, s.press(0, 10, 5, 0));
+    }
+
+    private void promise19NothingIsAsked() {
+        ShakyScreens s = Texts.screens("x1;p1", 1);
+        check.due("no LAYING", -3, s.confirm(0, 5));
+        s.lay(0, 1);
+        s.press(0, 5, 5, 0);
+        s.lay(0, 1);
+        check.due("another LAYING", -3, s.confirm(0, 5));
+        s.press(0, 5, 5, 0);
+        s.back(0);
+        check.due("the old LAYING", -3, s.confirm(0, 5));
+        s.press(0, 5, 5, 0);
+        s.offer(0, 0);
+        check.due("an offer taken", -3, s.confirm(0, 5));
+        s.press(0, 5, 5, 0);
+        s.press(0, 5, 5, 0);
+        check.due("TAKEN already", -3, s.confirm(0, 5));
+        s.press(0, 5, 5, 0);
+        Texts.take(s, "x1;p1");
+        check.due("another TEXT", -3, s.confirm(0, 5));
+        check.due("refused ones have no TICK", -9, s.press(0, 5, 5, 0));
+        check.due("COUNTED once in all", 1, s.counted(0, 0));
     }
 
     private void promise19Confirm() {
@@ -227,6 +420,23 @@ public final class PressesTest {
         check.due("what is ASKED stays", 0, s.asked(0));
     }
 
+    /** Eleven, twelve, thirteen TAKEN, a CONFIRMED one among them: so many can be TAKEN BACK. */
+    private void promise21NoMoreThanTwelve() {
+        for (int taken = 11; taken <= 13; taken++) {
+            ShakyScreens s = onePart("x1");
+            for (int k = 0; k < taken; k++) {
+                s.press(0, k == 0 ? 25 : 15, 15, k);
+                check.due("confirmed", 0, s.confirm(0, k));
+            }
+            for (int k = Math.min(taken, 12); k > 0; k--) {
+                check.due("of " + taken + " that number " + k, k == 1 && taken < 13 ? 2 : 0, s.undo(0));
+            }
+            check.due("no more of " + taken, -3, s.undo(0));
+            check.due("COUNTED still", taken == 13 ? 1 : 0, s.counted(0, 2));
+            check.due("COUNTED no more", 0, s.counted(0, 0));
+        }
+    }
+
     private void promise22Counted() {
         ShakyScreens s = onePart("d1");
         s.press(0, 15, 15, 0);
@@ -262,6 +472,71 @@ public final class PressesTest {
         check.due("9 times 10 against 8 times 10", 2, s.span(0, 9));
         check.due("8 times 9 against 8 times 10", 1, s.span(0, 8));
         check.due("another PERSON's", -9, s.span(1, 10));
+    }
+
+    /** Those that are no more among the LAST are COUNTED still. */
+    private void promise23SpanOfAllCounted() {
+        ShakyScreens s = onePart("d1");
+        for (int k = 0; k < 16; k++) {
+            s.press(0, k < 4 ? 25 : 15, 15, 0);
+        }
+        check.due("12 of 16 are no less than 7 tenths", 0, s.span(0, 7));
+        check.due("but less than 8", 2, s.span(0, 8));
+        for (int k = 0; k < 12; k++) {
+            s.undo(0);
+        }
+        check.due("four are left", 2, s.span(0, 1));
+        check.due("nothing can be TAKEN BACK", -3, s.undo(0));
+    }
+
+    private void dueWorse(ShakyScreens s, String what, long upper, long lower) {
+        check.due("upper of " + what, upper, s.worse(0, 0));
+        check.due("lower of " + what, lower, s.worse(0, 1));
+    }
+
+    private void promise24WorseOfTwelve() {
+        ShakyScreens s = onePart("d1");
+        s.press(0, 25, 15, 0);
+        check.due("one is no pair", Long.MIN_VALUE, s.worse(0, 1));
+        for (int k = 1; k < 12; k++) {
+            s.press(0, 15, 15, 0);
+        }
+        dueWorse(s, "the first of twelve is the greatest", 0, 1);
+        s.press(0, 15, 15, 0);
+        check.due("the first is gone: twelve like ones", Long.MIN_VALUE, s.worse(0, 0));
+        s.press(0, 20, 15, 0);
+        dueWorse(s, "the last of twelve is the greatest", 1, 1);
+        s.press(0, 15, 15, 0);
+        dueWorse(s, "10 of 11", 10, 11);
+        s.undo(0);
+        s.undo(0);
+        check.due("TAKEN BACK: ten like ones", Long.MIN_VALUE, s.worse(0, 0));
+        int[] at = {15, 20, 25};
+        for (int k = 0; k < 12; k++) {
+            s.press(0, at[k % 3], 15, 0);
+        }
+        dueWorse(s, "30 of 48", 5, 8);
+    }
+
+    /** The 512th call of an object is answered as the first: 511 others are made ahead of it. */
+    private void fiveHundredAndTwelveCalls() {
+        ShakyScreens s = new ShakyScreens();
+        s.person();
+        s.sheet(0, 0, 2);
+        s.put(0, 0, 'd');
+        s.put(0, 1, '1');
+        s.text(0, 0, 0, 2);
+        s.lay(0, 1);
+        for (int k = 0; k < 505; k++) {
+            s.press(0, 5, 5, k);
+        }
+        check.due("call 512: counted(0, 0)", 505, s.counted(0, 0));
+        s = new ShakyScreens();
+        for (int k = 0; k < 510; k++) {
+            s.sheet(k % 4, k % 3, 60);
+        }
+        check.due("call 511: sheet()", 1, s.sheet(0, 2, 60));
+        check.due("call 512: put()", 1, s.put(0, 59, 1));
     }
 
     private void promise24Worse() {

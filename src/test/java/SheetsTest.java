@@ -8,17 +8,24 @@ public final class SheetsTest {
     public static void main(String[] args) {
         SheetsTest test = new SheetsTest();
         test.promise30Sheet();
+        test.promise30EverySheetAndLane();
         test.promise31Lose();
         test.promise32Put();
+        test.promise32CutToTheEdge();
+        test.promise32And33EveryCell();
         test.promise33Cell();
         test.promise34Copy();
+        test.promise34CopyOfWholeRows();
+        test.promise34CopyOfUnlikeLengths();
         test.promise34CopyRefusalsAndFaults();
         test.promise35Tell();
         test.promise36Speak();
         test.promise37As();
         test.promise38Trace();
         test.promise39Fault();
+        test.promise39FaultOfEachCall();
         test.promise40Many();
+        test.promise40ManyWhenFull();
         test.check.end();
     }
 
@@ -45,6 +52,24 @@ public final class SheetsTest {
         due(s, "the last cell", 0, 0, s.cell(0, 59, INTS));
         due(s, "sheet(3, 1, 0)", 1, 0, s.sheet(3, SHORTS, 0));
         due(s, "a row of no cells", -13, 3, s.put(3, 0, 1));
+    }
+
+    private void promise30EverySheetAndLane() {
+        ShakyScreens s = new ShakyScreens();
+        int[] sizes = {0, 1, 59, 60};
+        for (int k = 0; k < 4; k++) {
+            for (int lane = 0; lane < 3; lane++) {
+                for (int n : sizes) {
+                    due(s, "a row of " + n, 1, 0, s.sheet(k, lane, n));
+                    due(s, "its last cell", n == 0 ? LOST : 0, n == 0 ? 3 : 0, s.cell(k, n - 1, lane));
+                    due(s, "beyond its last cell", LOST, 3, s.cell(k, n, lane));
+                }
+                s.put(k, 0, 5);
+                due(s, "a new row of the same size", 1, 0, s.sheet(k, lane, 60));
+                due(s, "is 0 at first", 0, 0, s.cell(k, 0, lane));
+            }
+            check.due("no other SHEET has one", 1, s.lose(k));
+        }
     }
 
     private void promise31Lose() {
@@ -76,6 +101,40 @@ public final class SheetsTest {
             check.due("another cell stays", 0, s.cell(lane, 0, lane));
             due(s, "put() at 2", -13, 3, s.put(lane, 2, 1));
             due(s, "put() at -1", -13, 3, s.put(lane, -1, 1));
+        }
+    }
+
+    /** What is just beyond a LANE comes in from its other end. */
+    private void promise32CutToTheEdge() {
+        ShakyScreens s = new ShakyScreens();
+        int[][] puts = {
+            {0, 127, 127}, {0, 128, -128}, {0, -128, -128}, {0, -129, 127}, {0, 255, -1}, {0, 256, 0}, {0, 32768, 0},
+            {0, Integer.MAX_VALUE, -1}, {0, Integer.MIN_VALUE, 0}, {1, 128, 128}, {1, 32767, 32767}, {1, 32768, -32768},
+            {1, -32768, -32768}, {1, -32769, 32767}, {1, 65535, -1}, {1, 65536, 0}, {1, Integer.MAX_VALUE, -1},
+            {1, Integer.MIN_VALUE, 0}, {2, 65536, 65536}, {2, Integer.MAX_VALUE, Integer.MAX_VALUE},
+            {2, Integer.MIN_VALUE, Integer.MIN_VALUE}, {2, -1, -1}};
+        for (int lane = 0; lane < 3; lane++) {
+            s.sheet(lane, lane, 1);
+        }
+        for (int[] put : puts) {
+            String call = "put " + put[1] + " in LANE " + put[0];
+            due(s, call, 1, 0, s.put(put[0], 0, put[1]));
+            due(s, "cell behind " + call, put[2], 0, s.cell(put[0], 0, put[0]));
+        }
+    }
+
+    private void promise32And33EveryCell() {
+        ShakyScreens s = new ShakyScreens();
+        for (int lane = 0; lane < 3; lane++) {
+            s.sheet(0, lane, 60);
+            for (int i = 0; i < 60; i++) {
+                check.due("put at " + i, 1, s.put(0, i, 3 * i - 60));
+            }
+            for (int i = 0; i < 60; i++) {
+                check.due("cell " + i, 3 * i - 60, s.cell(0, i, lane));
+            }
+            due(s, "put at 60", -13, 3, s.put(0, 60, 1));
+            due(s, "cell 60", LOST, 3, s.cell(0, 60, lane));
         }
     }
 
@@ -127,6 +186,50 @@ public final class SheetsTest {
             dueRow(s, 0, lane, 1, 2, 3, 2, 3);
             due(s, "no cells behind the last", 0, 0, s.copy(0, 5, 1, 5, 0));
         }
+    }
+
+    private void promise34CopyOfWholeRows() {
+        ShakyScreens s = new ShakyScreens();
+        s.sheet(0, SHORTS, 60);
+        s.sheet(3, SHORTS, 60);
+        for (int i = 0; i < 60; i++) {
+            s.put(0, i, 500 + i);
+        }
+        due(s, "60 cells", 60, 0, s.copy(0, 0, 3, 0, 60));
+        due(s, "60 cells onto themselves", 60, 0, s.copy(0, 0, 0, 0, 60));
+        for (int i = 0; i < 60; i++) {
+            check.due("cell " + i, 500 + i, s.cell(3, i, SHORTS));
+            check.due("cell " + i + " stays", 500 + i, s.cell(0, i, SHORTS));
+        }
+        due(s, "61 cells", -13, 3, s.copy(0, 0, 3, 0, 61));
+        due(s, "60 cells from 1 on", -13, 3, s.copy(0, 1, 3, 0, 60));
+        due(s, "60 cells to 1 on", -13, 3, s.copy(0, 0, 3, 1, 60));
+        due(s, "59 cells from 0 on to 1 on", 59, 0, s.copy(0, 0, 0, 1, 59));
+        for (int i = 0; i < 60; i++) {
+            check.due("cell " + i + " as they were", 500 + Math.max(0, i - 1), s.cell(0, i, SHORTS));
+        }
+    }
+
+    /** Each SHEET's own length bounds its own cells. */
+    private void promise34CopyOfUnlikeLengths() {
+        ShakyScreens s = new ShakyScreens();
+        s.sheet(0, INTS, 7);
+        s.sheet(1, INTS, 3);
+        s.sheet(2, INTS, 0);
+        s.put(0, 6, Integer.MIN_VALUE);
+        due(s, "to the last cell", 1, 0, s.copy(0, 6, 1, 2, 1));
+        check.due("it went", Integer.MIN_VALUE, s.cell(1, 2, INTS));
+        due(s, "beyond the other", -13, 3, s.copy(0, 3, 1, 0, 4));
+        due(s, "beyond the first", -13, 3, s.copy(1, 0, 0, 0, 4));
+        due(s, "behind the other's last", 0, 0, s.copy(0, 0, 1, 3, 0));
+        due(s, "beyond that", -13, 3, s.copy(0, 0, 1, 4, 0));
+        due(s, "behind the first's last", 0, 0, s.copy(0, 7, 1, 0, 0));
+        due(s, "beyond that", -13, 3, s.copy(0, 8, 1, 0, 0));
+        due(s, "of no cells", 0, 0, s.copy(2, 0, 0, 0, 0));
+        due(s, "to no cells", 0, 0, s.copy(0, 0, 2, 0, 0));
+        due(s, "of no cells from 1 on", -13, 3, s.copy(2, 1, 0, 0, 0));
+        due(s, "one of no cells", -13, 3, s.copy(2, 0, 0, 0, 1));
+        due(s, "one to no cells", -13, 3, s.copy(0, 0, 2, 0, 1));
     }
 
     private void promise34CopyRefusalsAndFaults() {
@@ -249,6 +352,44 @@ public final class SheetsTest {
         s.put(0, 3, 0);
         check.due("a faulty TEXT is no FAULT", -100, s.text(0, 0, 0, 3));
         check.due("fault() behind it", 0, s.fault());
+    }
+
+    /** Behind each FAULT each call that names FAULTS, made well: it tells 0 then. */
+    private void promise39FaultOfEachCall() {
+        String[] faults = {"put 2 0 0", "as 0 1", "put 0 9 0", "sheet 0 0 -1"};
+        String[] wellMade = {"text 3 2 0 2", "sheet 1 0 1", "put 0 0 0", "cell 0 0 0", "copy 0 0 0 0 1", "as 0 0"};
+        String[] others = {"part 0 0", "wish 0 1", "follows 0 0", "follow 0 0 0", "person", "can 0 0 0", "best 0 1 -1",
+            "lay 0 1", "offer 0 0", "back 0", "at 0 0", "price 0", "ways 1 2 -1", "kept 0 1 1", "rule 0 5", "press 0 5 5 0",
+            "confirm 0 0", "asked 0", "undo 0", "counted 0 0", "span 0 1", "worse 0 0", "trial 0 0 0", "odds 0 0",
+            "leave 0 1 0 0", "see 0 0 0 0", "told 0 0 1 0", "lose 2", "lose 9", "tell 0", "speak 0", "trace", "fault",
+            "many 0"};
+        ShakyScreens s = Texts.screens("p1", 1);
+        s.sheet(0, BYTES, 9);
+        for (int k = 0; k < faults.length; k++) {
+            for (String call : wellMade) {
+                check.due(faults[k], -11 - k, Calls.answer(s, faults[k]));
+                check.due("fault() behind " + faults[k], k + 1, s.fault());
+                check.holds(call + " is made", Calls.answer(s, call) >= 0);
+                check.due("fault() behind " + call, 0, s.fault());
+            }
+            Calls.answer(s, faults[k]);
+            for (String call : others) {
+                Calls.answer(s, call);
+                check.due("fault() behind " + call, k + 1, s.fault());
+            }
+        }
+    }
+
+    private void promise40ManyWhenFull() {
+        ShakyScreens s = Texts.screens("p1;p1;p1;p1;p1;p1;p1;p1;p1;p1", 4);
+        check.due("ten PARTS", 10, s.many(0));
+        check.due("four PERSONS", 4, s.many(1));
+        s.person();
+        Texts.take(s, "p1;p1;p1;p1;p1;p1;p1;p1;p1;p1;p1");
+        check.due("ten PARTS still", 10, s.many(0));
+        check.due("four PERSONS still", 4, s.many(1));
+        Texts.take(s, "p1");
+        check.due("one PART", 1, s.many(0));
     }
 
     private void promise40Many() {
