@@ -930,16 +930,32 @@ public final class ShakyScreens {
 
     /** Seeks the BEST LAYING; one object seeks for all calls, so that none of them makes rows. */
     private static final class Seeker {
-        private static final int NO_PRICE = Integer.MAX_VALUE;
+        /** Far above every PRICE, and far enough below the greatest int to be added to one. */
+        private static final int NO_PRICE = 1 << 20;
 
         final Laying best = new Laying();
         private final int[] chosen = new int[MOST_LAID];
         private final int[] places = new int[MOST_LAID];
         private final int[][] pulls = new int[MOST_LAID][MOST_LAID];
-        private final int[] leastRest = new int[MOST_LAID + 1];
-        private final int[] tooNear = new int[PLACES];
+        private final int[] leastAmong = new int[MOST_LAID + 1];
+        /** By how many are laid, and by PART and PLACE: what it would pay there to those that are laid. */
+        private final int[][] dues = new int[MOST_LAID][MOST_LAID * PLACES];
+        private final int[][] wayFrom = new int[PLACES][PLACES];
+        private final int[][] tooNear = new int[MOST_ABLE[WIDE] + 1][PLACES];
         private int count = 0;
+        private int wide = 0;
         private int bestPrice = NO_PRICE;
+
+        Seeker() {
+            for (int place = 0; place < PLACES; place++) {
+                for (int other = 0; other < PLACES; other++) {
+                    wayFrom[place][other] = Laying.wayBetween(place, other);
+                    for (int w = 0; w <= MOST_ABLE[WIDE]; w++) {
+                        tooNear[w][place] |= Laying.apart(place, other) <= w ? 1 << other : 0;
+                    }
+                }
+            }
+        }
 
         /** The PRICE of what is the best then; NONE: there is no LAYING. */
         int seek(Parts parts, int set, Person who) {
@@ -948,8 +964,9 @@ public final class ShakyScreens {
             if (count > who.able[HOLD]) {
                 return NONE;
             }
-            weighPairs(parts, who.able[WIDE]);
-            findTooNear(who.able[WIDE]);
+            wide = who.able[WIDE];
+            weighPairs(parts);
+            Arrays.fill(dues[0], 0);
             bestPrice = NO_PRICE;
             layFrom(0, 0, who.able[REACH]);
             return best.isEmpty() ? NONE : bestPrice;
@@ -965,54 +982,57 @@ public final class ShakyScreens {
             }
         }
 
-        /** Any two lie more than WIDE apart: that tells the least that the rest will cost. */
-        private void weighPairs(Parts parts, int wide) {
-            leastRest[count] = 0;
+        /** Any two lie more than WIDE apart: that tells the least that those from k on pay each other. */
+        private void weighPairs(Parts parts) {
+            leastAmong[count] = 0;
             for (int k = count - 1; k >= 0; k--) {
                 int sum = 0;
-                for (int j = 0; j < k; j++) {
-                    pulls[k][j] = parts.followsBothWays(chosen[j], chosen[k]);
-                    sum += pulls[k][j];
+                for (int later = k + 1; later < count; later++) {
+                    pulls[k][later] = parts.followsBothWays(chosen[k], chosen[later]);
+                    sum += pulls[k][later];
                 }
-                leastRest[k] = leastRest[k + 1] + sum * (wide + 1);
-            }
-        }
-
-        /** For each PLACE the set of those that no other PART may have then, itself among them. */
-        private void findTooNear(int wide) {
-            for (int place = 0; place < PLACES; place++) {
-                tooNear[place] = 0;
-                for (int other = 0; other < PLACES; other++) {
-                    if (Laying.apart(place, other) <= wide) {
-                        tooNear[place] |= 1 << other;
-                    }
-                }
+                leastAmong[k] = leastAmong[k + 1] + sum * (wide + 1);
             }
         }
 
         /** Goes through LAYINGS in their order as rows, so a like PRICE that comes later is no better. */
         private void layFrom(int k, int paid, int free) {
-            if (k > count || paid + leastRest[k] >= bestPrice) {
-                return;
-            }
-            if (k == count) {
+            if (k >= count) {
                 keepAsBest(paid);
                 return;
             }
             for (int place = 0; place < PLACES; place++) {
                 if ((free >> place & 1) == 1) {
                     places[k] = place;
-                    layFrom(k + 1, paid + pullOf(k, place), free & ~tooNear[place]);
+                    int paidThen = paid + dues[k][k * PLACES + place];
+                    int freeThen = free & ~tooNear[wide][place];
+                    if (paidThen + leastRest(k, freeThen) < bestPrice) {
+                        layFrom(k + 1, paidThen, freeThen);
+                    }
                 }
             }
         }
 
-        private int pullOf(int k, int place) {
-            int sum = 0;
-            for (int j = 0; j < k; j++) {
-                sum += pulls[k][j] * Laying.wayBetween(places[j], place);
+        /** The least that those behind k can still pay, now that k is laid; leaves what is due of them. */
+        private int leastRest(int k, int free) {
+            int sum = leastAmong[k + 1];
+            for (int later = k + 1; later < count; later++) {
+                sum += leastDue(k, later, free);
             }
             return sum;
+        }
+
+        private int leastDue(int k, int later, int free) {
+            int[] way = wayFrom[places[k]];
+            int least = NO_PRICE;
+            for (int place = 0; place < PLACES; place++) {
+                if ((free >> place & 1) == 1) {
+                    int due = dues[k][later * PLACES + place] + pulls[k][later] * way[place];
+                    dues[k + 1][later * PLACES + place] = due;
+                    least = Math.min(least, due);
+                }
+            }
+            return least;
         }
 
         private void keepAsBest(int paid) {
