@@ -938,7 +938,7 @@ public final class ShakyScreens {
         private final int[] places = new int[MOST_LAID];
         private final int[][] pulls = new int[MOST_LAID][MOST_LAID];
         private final int[] leastAmong = new int[MOST_LAID + 1];
-        /** By how many are laid, and by PART and PLACE: what it would pay there to those that are laid. */
+        /** By how many are laid, and by PART and PLACE: what it would pay there to those; 0 to none. */
         private final int[][] dues = new int[MOST_LAID][MOST_LAID * PLACES];
         private final int[][] wayFrom = new int[PLACES][PLACES];
         private final int[][] tooNear = new int[MOST_ABLE[WIDE] + 1][PLACES];
@@ -966,7 +966,6 @@ public final class ShakyScreens {
             }
             wide = who.able[WIDE];
             weighPairs(parts);
-            Arrays.fill(dues[0], 0);
             bestPrice = NO_PRICE;
             layFrom(0, 0, who.able[REACH]);
             return best.isEmpty() ? NONE : bestPrice;

@@ -121,6 +121,12 @@ public final class LayingsTest {
         check.due("a pair", 8, s.best(0, 17, -1));
         s.follow(1, 2, 99);
         check.due("1 and 2 close together", 99 + 1 + 2 + 1 + 8, s.best(0, 31, -1));
+        s = Texts.screens("p1;p1>0;p1>0", 1);
+        s.can(0, 1, 7);
+        check.due("the first of the PARTS amid a row", 2, s.best(0, 7, -1));
+        check.due("PLACE of 0 amid them", 1, s.best(0, 7, 0));
+        check.due("PLACE of 1 ahead of it", 0, s.best(0, 7, 1));
+        check.due("PLACE of 2 behind it", 2, s.best(0, 7, 2));
     }
 
     private void promise9BestByOrder() {
