@@ -17,9 +17,9 @@ public final class ShakyScreens {
     private static final int COLUMNS = 4, PLACES = 12;
     private static final int PLACE_SIZE = 10, MOST_X = 39, MOST_Y = 29, ERROR_SIZE = 5;
     private static final int MOST_LAID = 5;
-    private static final int WIDE = 0, REACH = 1, HOLD = 2, ABILITIES = 3;
+    private static final int WIDE = 0, REACH = 1, HOLD = 2, ABILITIES = 3, MOST_WIDE = 2;
     private static final int[] LEAST_ABLE = {0, 0, 1};
-    private static final int[] MOST_ABLE = {2, 4095, 10};
+    private static final int[] MOST_ABLE = {MOST_WIDE, 4095, 10};
     private static final int LEAST_ENTRIES = 2, MOST_ENTRIES = 9, MOST_STEPS = 9;
     private static final int SURENESS = 0, PAUSE = 1, RULES = 2;
     private static final int[] MOST_RULED = {10, 99};
@@ -941,7 +941,7 @@ public final class ShakyScreens {
         /** By how many are laid, and by PART and PLACE: what it would pay there to those; 0 to none. */
         private final int[][] dues = new int[MOST_LAID][MOST_LAID * PLACES];
         private final int[][] wayFrom = new int[PLACES][PLACES];
-        private final int[][] tooNear = new int[MOST_ABLE[WIDE] + 1][PLACES];
+        private final int[][] tooNear = new int[MOST_WIDE + 1][PLACES];
         private int count = 0;
         private int wide = 0;
         private int bestPrice = NO_PRICE;
@@ -950,7 +950,7 @@ public final class ShakyScreens {
             for (int place = 0; place < PLACES; place++) {
                 for (int other = 0; other < PLACES; other++) {
                     wayFrom[place][other] = Laying.wayBetween(place, other);
-                    for (int w = 0; w <= MOST_ABLE[WIDE]; w++) {
+                    for (int w = 0; w <= MOST_WIDE; w++) {
                         tooNear[w][place] |= Laying.apart(place, other) <= w ? 1 << other : 0;
                     }
                 }
