@@ -129,7 +129,7 @@ final class PlainModel {
         try {
             Object row = rowAs(sheets[sheet], lane);
             int length = java.lang.reflect.Array.getLength(row);
-            codes = new char[n];
+            codes = new char[Math.min(n, 60)]; // more than any SHEET has would only cost room
             if (i < 0 || i > length || (long) i + n > length) {
                 throw new IndexOutOfBoundsException();
             }
